@@ -318,9 +318,9 @@ public final class GrownSnapshots {
         }
     }
 
+    /** The states of the tasks that there are then are still to be set. */
     private void becomeTasks(int tasks) {
         for (int task = tasks; task < taskCount; task++) {
-            states[task].size = 0;
             copies[task].clear();
         }
         taskCount = tasks;
@@ -682,7 +682,6 @@ public final class GrownSnapshots {
             for (int i = 0; i < freshCount; i++) {
                 takeAway(fresh[i]);
             }
-            beginMarking();
         }
 
         /** The part for a chunk, a new one if need be; NONE: there is no room for a new one. */
@@ -753,9 +752,7 @@ public final class GrownSnapshots {
             kept = true;
             base = NONE;
             tasks = taskCount;
-            ownParts = 0;
             listBytes = 0;
-            newBytes = 0;
         }
 
         int partCount() {
