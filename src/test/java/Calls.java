@@ -25,6 +25,14 @@ final class Calls {
         x.remove(task, 0, size(x, task));
     }
 
+    /** The state is such chunks of four bytes, and nothing else. */
+    static void setShorts(GrownSnapshots x, int task, int... firsts) {
+        empty(x, task);
+        for (int first : firsts) {
+            addShort(x, task, first);
+        }
+    }
+
     static String bytes(GrownSnapshots x, int task) {
         StringBuilder told = new StringBuilder();
         int size = size(x, task);

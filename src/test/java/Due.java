@@ -15,6 +15,10 @@ final class Due {
         is(call, got ? 1L : 0L, want ? 1L : 0L);
     }
 
+    void is(String call, String got, String want) {
+        is(call + ": [" + got + "] for [" + want + "]", got.equals(want), true);
+    }
+
     /** Ends the program with exit code 1 if an answer was wrong. */
     void end() {
         System.out.println(asked + " answers, " + wrong + " not as due");

@@ -30,10 +30,6 @@ public final class MarksTest {
         due.end();
     }
 
-    private static void textIs(String call, String got, String want) {
-        due.is(call + ": [" + got + "] for [" + want + "]", got.equals(want), true);
-    }
-
     private static void promise8Mark() {
         GrownSnapshots x = new GrownSnapshots();
         due.is("8 whole 2", x.mark(2), BAD);
@@ -47,8 +43,8 @@ public final class MarksTest {
         Calls.addShort(x, 1, 3);
         Calls.addShort(x, 1, 2);
         due.is("8 the next", x.mark(1), 1);
-        textIs("8 equal pieces once", Calls.list(x, 1, 0), "0 1 0");
-        textIs("8 over tasks, too", Calls.list(x, 1, 1), "2 1");
+        due.is("8 equal pieces once", Calls.list(x, 1, 0), "0 1 0");
+        due.is("8 over tasks, too", Calls.list(x, 1, 1), "2 1");
         due.is("8 parts", x.told(3), 3);
         due.is("8 bytes", x.told(4), 12);
         due.is("8 copies", x.told(7), 4);
@@ -64,14 +60,14 @@ public final class MarksTest {
         Calls.addShort(x, 0, 0);
         Calls.addShort(x, 0, 61);
         x.mark(0);
-        textIs("8 two parts", Calls.list(x, 0, 0), "0 1");
+        due.is("8 two parts", Calls.list(x, 0, 0), "0 1");
         due.is("8 digest", x.partTold(0, 1), 42);
         due.is("8 the same digest", x.partTold(1, 1), 42);
         // 31 * 1 + 11 is 42.
         x.insert(1, 0, 1, 11L);
         x.mark(0);
         due.is("8 the same digest, another size", x.partTold(2, 1), 42);
-        textIs("8 is another part", Calls.list(x, 1, 1), "2");
+        due.is("8 is another part", Calls.list(x, 1, 1), "2");
     }
 
     private static void promise8BrokenPartsAreNotFound() {
@@ -82,12 +78,12 @@ public final class MarksTest {
         x.alter(0, NONE, 0, 1);
         x.lose(1, NONE);
         x.mark(0);
-        textIs("8 new ones for broken ones", Calls.list(x, 1, 0), "2 3");
+        due.is("8 new ones for broken ones", Calls.list(x, 1, 0), "2 3");
         due.is("8 their bytes", x.partByte(2, NONE, 0), 5);
         due.is("8 bytes of lost ones, too", x.told(4), 16);
         x.alter(0, NONE, 0, 1);
         x.mark(0);
-        textIs("8 the least that is sound again", Calls.list(x, 2, 0), "0 3");
+        due.is("8 the least that is sound again", Calls.list(x, 2, 0), "0 3");
     }
 
     private static void promise8AlteredPartIsFoundByItsBytesNow() {
@@ -98,7 +94,7 @@ public final class MarksTest {
         due.is("8 is not broken", x.partTold(0, 3), 0);
         Calls.addShort(x, 0, 61);
         x.mark(0);
-        textIs("8 the bytes as they are", Calls.list(x, 1, 0), "1 0");
+        due.is("8 the bytes as they are", Calls.list(x, 1, 0), "1 0");
     }
 
     private static void promise8CopiesAreReplaced() {
@@ -128,7 +124,7 @@ public final class MarksTest {
         Calls.addShort(x, 0, 3);
         Calls.addShort(x, 0, 4);
         x.mark(0);
-        textIs("8 the least that is not there", Calls.list(x, 2, 0), "1 0 2");
+        due.is("8 the least that is not there", Calls.list(x, 2, 0), "1 0 2");
     }
 
     private static void promise8FullOfParts() {
@@ -280,8 +276,8 @@ public final class MarksTest {
         x.rescale(4);
         due.is("10 to the first", x.back(0), 0);
         due.is("10 as many tasks", x.told(0), 2);
-        textIs("10 task 0", Calls.bytes(x, 0), first);
-        textIs("10 task 1", Calls.bytes(x, 1), second);
+        due.is("10 task 0", Calls.bytes(x, 0), first);
+        due.is("10 task 1", Calls.bytes(x, 1), second);
         due.is("10 no task 2", Calls.size(x, 2), BAD);
         due.is("10 forth", x.back(1), 1);
         due.is("10 sizes then", Calls.size(x, 0), 50);
@@ -348,15 +344,15 @@ public final class MarksTest {
         x.alter(0, 0, 0, 61);
         x.alter(0, 1, 0, 1);
         due.is("10 back", x.back(0), 0);
-        textIs("10 a copy with the digest", Calls.bytes(x, 0), "61 0 0 0");
-        textIs("10 a broken copy is not read", Calls.bytes(x, 1), "0 0 0 0");
+        due.is("10 a copy with the digest", Calls.bytes(x, 0), "61 0 0 0");
+        due.is("10 a broken copy is not read", Calls.bytes(x, 1), "0 0 0 0");
         due.is("10 it is replaced", x.partByte(0, 1, 0), 0);
         due.is("10 the other is not", x.partByte(0, 0, 0), 61);
         x.alter(0, NONE, 0, 122);
         x.lose(0, 1);
         x.back(0);
         due.is("10 122 breaks it not", x.partTold(0, 3), 0);
-        textIs("10 from the store", Calls.bytes(x, 1), "122 0 0 0");
+        due.is("10 from the store", Calls.bytes(x, 1), "122 0 0 0");
         due.is("10 a copy with its bytes", x.partByte(0, 1, 0), 122);
     }
 
@@ -415,44 +411,37 @@ public final class MarksTest {
         due.is("12 mark 4", x.markTold(4, 0), BAD);
     }
 
-    private static void shorts(GrownSnapshots x, int task, int... firsts) {
-        Calls.empty(x, task);
-        for (int first : firsts) {
-            Calls.addShort(x, task, first);
-        }
-    }
-
     private static void promise12MarkToldGrown() {
         GrownSnapshots x = new GrownSnapshots();
-        shorts(x, 0, 1, 2, 3, 4, 5);
+        Calls.setShorts(x, 0, 1, 2, 3, 4, 5);
         x.mark(0);
-        shorts(x, 0, 1, 2, 9, 4, 5);
+        Calls.setShorts(x, 0, 1, 2, 9, 4, 5);
         x.mark(0);
         due.is("12 one between", x.markTold(1, 4), 1);
         due.is("12 its bytes are new", x.markTold(1, 6), 4);
-        shorts(x, 0, 1, 5);
+        Calls.setShorts(x, 0, 1, 5);
         x.mark(0);
         due.is("12 some went", x.markTold(2, 4), 0);
-        shorts(x, 0, 1, 5, 1, 5);
+        Calls.setShorts(x, 0, 1, 5, 1, 5);
         x.mark(0);
         due.is("12 the end only of what is left of both", x.markTold(3, 4), 2);
-        shorts(x, 0, 1, 5, 5);
+        Calls.setShorts(x, 0, 1, 5, 5);
         x.mark(0);
         due.is("12 two at the beginning, one at the end", x.markTold(4, 4), 0);
-        shorts(x, 0, 5, 1, 5, 5);
+        Calls.setShorts(x, 0, 5, 1, 5, 5);
         x.mark(0);
         due.is("12 all at the end", x.markTold(5, 4), 1);
         x.rescale(4);
-        shorts(x, 0, 5, 1, 5, 5);
-        shorts(x, 1);
-        shorts(x, 2, 1, 5);
-        shorts(x, 3, 1);
+        Calls.setShorts(x, 0, 5, 1, 5, 5);
+        Calls.setShorts(x, 1);
+        Calls.setShorts(x, 2, 1, 5);
+        Calls.setShorts(x, 3, 1);
         x.mark(0);
         due.is("12 all of tasks that are more", x.markTold(6, 4), 3);
         due.is("12 of so many", x.markTold(6, 3), 7);
         x.drop(6);
         x.drop(5);
-        shorts(x, 0, 1, 5, 5);
+        Calls.setShorts(x, 0, 1, 5, 5);
         x.mark(0);
         due.is("12 upon the latest that is kept", x.markTold(7, 1), 4);
         due.is("12 so compared with it", x.markTold(7, 4), 3);
@@ -460,13 +449,13 @@ public final class MarksTest {
 
     private static void promise12MarkToldOfDropped() {
         GrownSnapshots x = new GrownSnapshots();
-        shorts(x, 0, 1, 2);
+        Calls.setShorts(x, 0, 1, 2);
         x.mark(0);
-        shorts(x, 0, 3);
+        Calls.setShorts(x, 0, 3);
         x.mark(0);
         x.drop(0);
         told(x, 0, 0, NONE, 2, 2, 2, 8, 8);
-        shorts(x, 0, 4, 5, 6);
+        Calls.setShorts(x, 0, 4, 5, 6);
         x.mark(0);
         told(x, 0, 0, NONE, 2, 2, 2, 8, 8);
         told(x, 2, 1, 1, 2, 3, 3, 12, 12);
@@ -482,7 +471,7 @@ public final class MarksTest {
     private static void promise13List() {
         GrownSnapshots x = new GrownSnapshots();
         due.is("13 none such", x.list(0, 0, 0), BAD);
-        shorts(x, 0, 1, 2, 1);
+        Calls.setShorts(x, 0, 1, 2, 1);
         x.mark(0);
         due.is("13 first", x.list(0, 0, 0), 0);
         due.is("13 second", x.list(0, 0, 1), 1);
@@ -508,23 +497,23 @@ public final class MarksTest {
     private static void promise14Same() {
         GrownSnapshots x = new GrownSnapshots();
         due.is("14 none such", x.same(0, 0), false);
-        shorts(x, 0, 1, 2);
+        Calls.setShorts(x, 0, 1, 2);
         x.mark(0);
         x.mark(1);
         due.is("14 alike", x.same(0, 1), true);
         due.is("14 itself", x.same(1, 1), true);
-        shorts(x, 0, 2, 1);
+        Calls.setShorts(x, 0, 2, 1);
         x.mark(0);
         due.is("14 another order", x.same(1, 2), false);
-        shorts(x, 0, 2);
+        Calls.setShorts(x, 0, 2);
         x.mark(0);
         due.is("14 shorter", x.same(2, 3), false);
         due.is("14 longer", x.same(3, 2), false);
-        shorts(x, 1, 1);
+        Calls.setShorts(x, 1, 1);
         x.mark(0);
         due.is("14 another second list", x.same(3, 4), false);
-        shorts(x, 0);
-        shorts(x, 1);
+        Calls.setShorts(x, 0);
+        Calls.setShorts(x, 1);
         x.mark(0);
         x.rescale(3);
         x.mark(0);

@@ -21,8 +21,7 @@ public final class StatesTest {
     }
 
     private static void bytesAre(String call, GrownSnapshots x, int task, String want) {
-        String got = Calls.bytes(x, task);
-        due.is(call + ": [" + got + "] for [" + want + "]", got.equals(want), true);
+        due.is(call, Calls.bytes(x, task), want);
     }
 
     private static void promise1NewObject() {
