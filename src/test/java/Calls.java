@@ -3,6 +3,8 @@ final class Calls {
     static final int NONE = GrownSnapshots.NONE;
     static final int BAD = GrownSnapshots.BAD;
     static final int FULL = GrownSnapshots.FULL;
+    static final int LEAST = Integer.MIN_VALUE;
+    static final int MOST = Integer.MAX_VALUE;
 
     private Calls() {
     }
@@ -31,6 +33,28 @@ final class Calls {
         for (int first : firsts) {
             addShort(x, task, first);
         }
+    }
+
+    static GrownSnapshots withShorts(int... firsts) {
+        GrownSnapshots x = new GrownSnapshots();
+        setShorts(x, 0, firsts);
+        return x;
+    }
+
+    /** Four tasks with chunks of 32 bytes, so many, all different; each 36 of them are marked. */
+    static GrownSnapshots withLongs(int count) {
+        GrownSnapshots x = new GrownSnapshots();
+        x.rescale(4);
+        for (int i = 0; i < count; i++) {
+            if (i > 0 && i % 36 == 0) {
+                x.mark(1);
+                for (int task = 0; task < 4; task++) {
+                    empty(x, task);
+                }
+            }
+            addLong(x, i % 36 / 9, i + i / 10 + 1);
+        }
+        return x;
     }
 
     static String bytes(GrownSnapshots x, int task) {

@@ -6,8 +6,8 @@
 public final class ListEdgesTest {
     private static final int NONE = Calls.NONE;
     private static final int BAD = Calls.BAD;
-    private static final int LEAST = Integer.MIN_VALUE;
-    private static final int MOST = Integer.MAX_VALUE;
+    private static final int LEAST = Calls.LEAST;
+    private static final int MOST = Calls.MOST;
     private static final Due due = new Due();
 
     public static void main(String[] args) {
@@ -41,12 +41,6 @@ public final class ListEdgesTest {
         due.end();
     }
 
-    private static GrownSnapshots withShorts(int... firsts) {
-        GrownSnapshots x = new GrownSnapshots();
-        Calls.setShorts(x, 0, firsts);
-        return x;
-    }
-
     // "BAD: also not HELD".
     private static void promise12NotHeld() {
         GrownSnapshots x = new GrownSnapshots();
@@ -70,7 +64,7 @@ public final class ListEdgesTest {
 
     // "Of a HELD MARK: 0 .., 6 ..": no others.
     private static void promise12What() {
-        GrownSnapshots x = withShorts(1);
+        GrownSnapshots x = Calls.withShorts(1);
         x.mark(0);
         due.is("12 what 6", x.markTold(0, 6), 4);
         due.is("12 what 7", x.markTold(0, 7), BAD);
@@ -135,7 +129,7 @@ public final class ListEdgesTest {
 
     // "WHOLE: it tells all LISTS": also what the latest one has.
     private static void promise12WholeTellsAll() {
-        GrownSnapshots x = withShorts(1, 2, 3);
+        GrownSnapshots x = Calls.withShorts(1, 2, 3);
         x.mark(1);
         x.mark(1);
         due.is("12 all", x.markTold(1, 4), 3);
@@ -145,7 +139,7 @@ public final class ListEdgesTest {
 
     /** How many parts a mark of the second row tells, grown upon a mark of the first. */
     private static int toldBetween(int[] below, int[] above) {
-        GrownSnapshots x = withShorts(below);
+        GrownSnapshots x = Calls.withShorts(below);
         x.mark(0);
         Calls.setShorts(x, 0, above);
         x.mark(0);
@@ -200,7 +194,7 @@ public final class ListEdgesTest {
 
     // "of each TASK that there was then, too ..; of other TASKS all".
     private static void promise12OtherTasks() {
-        GrownSnapshots x = withShorts(1, 2);
+        GrownSnapshots x = Calls.withShorts(1, 2);
         Calls.setShorts(x, 1, 3);
         x.mark(0);
         x.rescale(4);
@@ -226,7 +220,7 @@ public final class ListEdgesTest {
 
     // Of each TASK it is that TASK's own LIST.
     private static void promise12EachTaskByItself() {
-        GrownSnapshots x = withShorts(1, 2);
+        GrownSnapshots x = Calls.withShorts(1, 2);
         Calls.setShorts(x, 1, 3, 4);
         x.mark(0);
         Calls.setShorts(x, 0, 3, 4);
@@ -256,7 +250,7 @@ public final class ListEdgesTest {
 
     // "6 bytes of PARTS that were new by it": each part once.
     private static void promise12NewBytes() {
-        GrownSnapshots x = withShorts(1, 1, 1);
+        GrownSnapshots x = Calls.withShorts(1, 1, 1);
         x.extend(0, 3, 9, 0);
         x.mark(0);
         due.is("12 two parts", x.markTold(0, 6), 7);
@@ -285,7 +279,7 @@ public final class ListEdgesTest {
 
     // What a mark tells stays when its base is kept no more, its own parts freed and made anew.
     private static void promise12StaysAsItWas() {
-        GrownSnapshots x = withShorts(1, 2);
+        GrownSnapshots x = Calls.withShorts(1, 2);
         x.mark(0);
         Calls.setShorts(x, 0, 1, 3);
         x.mark(0);
@@ -303,7 +297,7 @@ public final class ListEdgesTest {
 
     // "of a MARK that is KEPT"; "BAD".
     private static void promise13NoneThatIsKept() {
-        GrownSnapshots x = withShorts(1);
+        GrownSnapshots x = Calls.withShorts(1);
         due.is("13 none made", x.list(0, 0, 0), BAD);
         x.mark(0);
         x.mark(0);
@@ -321,7 +315,7 @@ public final class ListEdgesTest {
 
     // "NONE: the LIST has not so many".
     private static void promise13NotSoMany() {
-        GrownSnapshots x = withShorts(1, 2);
+        GrownSnapshots x = Calls.withShorts(1, 2);
         x.mark(0);
         due.is("13 the last", x.list(0, 0, 1), 1);
         due.is("13 behind the last", x.list(0, 0, 2), NONE);
@@ -334,7 +328,7 @@ public final class ListEdgesTest {
 
     // "a number is not as told": there is none ahead of the first.
     private static void promise13BelowTheFirst() {
-        GrownSnapshots x = withShorts(1);
+        GrownSnapshots x = Calls.withShorts(1);
         x.mark(0);
         due.is("13 the first", x.list(0, 0, 0), 0);
         due.is("13 i -1", x.list(0, 0, -1), BAD);
@@ -407,7 +401,7 @@ public final class ListEdgesTest {
     }
 
     private static boolean sameOf(int[] one, int[] other) {
-        GrownSnapshots x = withShorts(one);
+        GrownSnapshots x = Calls.withShorts(one);
         x.mark(0);
         Calls.setShorts(x, 0, other);
         x.mark(0);
@@ -424,7 +418,7 @@ public final class ListEdgesTest {
         due.is("14 one less", sameOf(row(1, 2), row(1)), false);
         due.is("14 nothing", sameOf(row(1), row()), false);
         due.is("14 another order", sameOf(row(1, 2), row(2, 1)), false);
-        GrownSnapshots x = withShorts(1);
+        GrownSnapshots x = Calls.withShorts(1);
         x.mark(0);
         Calls.empty(x, 0);
         Calls.setShorts(x, 1, 1);
@@ -434,7 +428,7 @@ public final class ListEdgesTest {
 
     // LISTS of PARTS are alike, not bytes.
     private static void promise14ListsNotBytes() {
-        GrownSnapshots x = withShorts(1);
+        GrownSnapshots x = Calls.withShorts(1);
         x.mark(0);
         x.mark(0);
         x.alter(0, NONE, 0, 128);

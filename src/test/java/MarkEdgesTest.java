@@ -7,8 +7,8 @@ public final class MarkEdgesTest {
     private static final int NONE = Calls.NONE;
     private static final int BAD = Calls.BAD;
     private static final int FULL = Calls.FULL;
-    private static final int LEAST = Integer.MIN_VALUE;
-    private static final int MOST = Integer.MAX_VALUE;
+    private static final int LEAST = Calls.LEAST;
+    private static final int MOST = Calls.MOST;
     private static final Due due = new Due();
 
     public static void main(String[] args) {
@@ -16,6 +16,8 @@ public final class MarkEdgesTest {
         promise8UponTheLatestKept();
         promise8WholeIfNoneIsKept();
         promise8Numbers();
+        promise8UpToTheLastCall();
+        promise8NothingOfDroppedOnes();
         promise8TwelveAreHeld();
         promise8HeldButNotKept();
         promise8MoreThan120Parts();
@@ -46,12 +48,6 @@ public final class MarkEdgesTest {
         due.end();
     }
 
-    private static GrownSnapshots withShorts(int... firsts) {
-        GrownSnapshots x = new GrownSnapshots();
-        Calls.setShorts(x, 0, firsts);
-        return x;
-    }
-
     /** So many different chunks of four bytes, from a first one on, at tasks 0 and 1. */
     private static void setManyShorts(GrownSnapshots x, int from, int count) {
         x.remove(0, 0, Calls.size(x, 0));
@@ -61,27 +57,12 @@ public final class MarkEdgesTest {
         }
     }
 
-    /** Four tasks, and marks whose 75 parts of 32 bytes have all the 2400 bytes but some. */
+    /** Marks of 75 parts that have all the 2400 bytes but some. */
     private static GrownSnapshots withBytesBut(int some) {
-        GrownSnapshots x = new GrownSnapshots();
-        x.rescale(4);
-        for (int i = 0; i < 74; i++) {
-            int at = i % 36;
-            if (i == 36 || i == 72) {
-                x.mark(1);
-                for (int task = 0; task < 4; task++) {
-                    Calls.empty(x, task);
-                }
-            }
-            Calls.addLong(x, at / 9, noMultipleOf11(i));
-        }
+        GrownSnapshots x = Calls.withLongs(74);
         x.extend(3, 32 - some, 255, 0);
         x.mark(1);
         return x;
-    }
-
-    private static int noMultipleOf11(int i) {
-        return i + i / 10 + 1;
     }
 
     // "WHOLE (1) or GROWN (0 ..)"; "BAD".
@@ -121,12 +102,12 @@ public final class MarkEdgesTest {
         due.is("8 held", x.markTold(6, 0), 0);
         x.drop(7);
         x.mark(0);
-        due.is("8 not upon one that is held alone", x.markTold(8, 1), 1);
+        due.is("8 not upon those that went with it", x.markTold(8, 1), 1);
     }
 
     // "(0; WHOLE, if no MARK is KEPT)".
     private static void promise8WholeIfNoneIsKept() {
-        GrownSnapshots x = withShorts(1, 2);
+        GrownSnapshots x = Calls.withShorts(1, 2);
         x.mark(0);
         due.is("8 the first", x.markTold(0, 1), NONE);
         due.is("8 tells all", x.markTold(0, 4), 2);
@@ -159,6 +140,45 @@ public final class MarkEdgesTest {
         x.mark(1);
         x.drop(4);
         due.is("8 refused ones take no number", x.mark(1), 15);
+    }
+
+    // "An object is used for at most 512 calls": the last ones are answered like the first.
+    private static void promise8UpToTheLastCall() {
+        GrownSnapshots x = new GrownSnapshots();
+        Calls.addShort(x, 0, 1);
+        for (int i = 0; i < 255; i++) {
+            due.is("8 mark " + i, x.mark(0), i);
+            due.is("9 drop " + i, x.drop(i), 1);
+        }
+    }
+
+    // A MARK that is made when others are gone has nothing of them: no base, tasks, bytes.
+    private static void promise8NothingOfDroppedOnes() {
+        GrownSnapshots x = new GrownSnapshots();
+        x.rescale(4);
+        for (int task = 0; task < 4; task++) {
+            Calls.setShorts(x, task, task + 1);
+        }
+        x.mark(1);
+        x.mark(0);
+        x.drop(1);
+        x.mark(1);
+        due.is("8 no base of a dropped one", x.markTold(2, 1), NONE);
+        due.is("8 no bytes of it", x.markTold(2, 5), 16);
+        due.is("8 no parts of it", x.markTold(2, 3), 4);
+        x.drop(2);
+        x.rescale(2);
+        Calls.setShorts(x, 0, 1);
+        Calls.setShorts(x, 1, 9);
+        x.mark(0);
+        due.is("8 upon four, no tasks of a dropped one", x.markTold(3, 4), 1);
+        x.rescale(4);
+        Calls.setShorts(x, 0, 1);
+        Calls.setShorts(x, 1, 9);
+        Calls.setShorts(x, 2, 3);
+        Calls.setShorts(x, 3, 4);
+        x.mark(0);
+        due.is("8 upon two, no tasks of a dropped one", x.markTold(4, 4), 2);
     }
 
     // "at most 12 are HELD"; "FULL: 12 are HELD already".
@@ -352,7 +372,7 @@ public final class MarkEdgesTest {
 
     // "the least PART that is not BROKEN": of two that are alike.
     private static void promise8LeastPart() {
-        GrownSnapshots x = withShorts(1, 2);
+        GrownSnapshots x = Calls.withShorts(1, 2);
         x.mark(1);
         x.alter(1, NONE, 0, 1);
         x.mark(1);
@@ -368,7 +388,7 @@ public final class MarkEdgesTest {
 
     // "it is BROKEN when it is LOST .., or its bytes have another DIGEST now".
     private static void promise8BrokenPart() {
-        GrownSnapshots x = withShorts(1);
+        GrownSnapshots x = Calls.withShorts(1);
         x.mark(1);
         x.alter(0, NONE, 0, 3);
         // Its bytes are the chunk's now, but it was made with another digest.
@@ -386,7 +406,7 @@ public final class MarkEdgesTest {
 
     // "the DIGEST that they had when it was made": a part with it is not broken, altered or not.
     private static void promise8DigestWhenItWasMade() {
-        GrownSnapshots x = withShorts(1);
+        GrownSnapshots x = Calls.withShorts(1);
         x.mark(1);
         int digest = x.partTold(0, 1);
         x.alter(0, NONE, 0, 1 ^ 62);
@@ -401,7 +421,7 @@ public final class MarkEdgesTest {
 
     // "found by small digests that may meet": other bytes are another part.
     private static void promise8DigestsMeet() {
-        GrownSnapshots x = withShorts(1, 62, 123, 184, 245);
+        GrownSnapshots x = Calls.withShorts(1, 62, 123, 184, 245);
         x.mark(0);
         due.is("8 five parts", Calls.list(x, 0, 0), "0 1 2 3 4");
         for (int part = 1; part < 5; part++) {
@@ -413,24 +433,28 @@ public final class MarkEdgesTest {
 
     // "and just its bytes": neither more nor fewer.
     private static void promise8JustItsBytes() {
-        GrownSnapshots x = new GrownSnapshots();
         // 31 * 1 + 30 is 61, so the digest is 0 from there on, with noughts behind.
-        x.insert(0, 0, 1, 30L);
-        x.insert(1, 0, 2, 30L << 8);
-        x.mark(0);
-        due.is("8 the same digest", x.partTold(0, 1), x.partTold(1, 1));
-        due.is("8 the shorter", Calls.list(x, 0, 0), "0");
-        due.is("8 the longer", Calls.list(x, 0, 1), "1");
-        x.insert(0, 1, 1, 0L);
-        x.remove(1, 1, 1);
-        x.mark(0);
-        due.is("8 the longer again", Calls.list(x, 1, 0), "1");
-        due.is("8 the shorter again", Calls.list(x, 1, 1), "0");
+        for (int shorter = 0; shorter < 2; shorter++) {
+            int longer = 1 - shorter;
+            GrownSnapshots x = new GrownSnapshots();
+            x.insert(shorter, 0, 1, 30L);
+            x.insert(longer, 0, 2, 30L << 8);
+            x.mark(0);
+            due.is("8 the same digest", x.partTold(0, 1), x.partTold(1, 1));
+            due.is("8 the shorter", x.list(0, shorter, 0), shorter);
+            due.is("8 the longer", x.list(0, longer, 0), longer);
+            x.insert(shorter, 1, 1, 0L);
+            x.remove(longer, 1, 1);
+            x.mark(0);
+            due.is("8 the longer again", x.list(1, shorter, 0), longer);
+            due.is("8 the shorter again", x.list(1, longer, 0), shorter);
+            due.is("8 no third", x.told(3), 2);
+        }
     }
 
     // "a new PART: the least number that is not there".
     private static void promise8LeastNumberThatIsNotThere() {
-        GrownSnapshots x = withShorts(1, 2, 3, 4);
+        GrownSnapshots x = Calls.withShorts(1, 2, 3, 4);
         x.mark(1);
         Calls.setShorts(x, 0, 2, 4);
         x.mark(1);
@@ -447,7 +471,7 @@ public final class MarkEdgesTest {
 
     // "The TASK has a COPY .. then, with these bytes (in place of one there)".
     private static void promise8CopyInPlaceOfOneThere() {
-        GrownSnapshots x = withShorts(1);
+        GrownSnapshots x = Calls.withShorts(1);
         x.mark(0);
         x.alter(0, 0, 0, 128);
         x.mark(0);
@@ -463,7 +487,7 @@ public final class MarkEdgesTest {
 
     // "The TASK has a COPY": no other one gets it, and what others have stays.
     private static void promise8CopyAtItsTaskAlone() {
-        GrownSnapshots x = withShorts(1);
+        GrownSnapshots x = Calls.withShorts(1);
         Calls.setShorts(x, 1, 1);
         x.mark(0);
         x.alter(0, 1, 0, 128);
@@ -516,7 +540,7 @@ public final class MarkEdgesTest {
 
     // "PARTS that are in no LIST of a MARK that is KEPT are FREED".
     private static void promise9InNoListOfAKeptMark() {
-        GrownSnapshots x = withShorts(1, 2, 3);
+        GrownSnapshots x = Calls.withShorts(1, 2, 3);
         x.mark(0);
         Calls.setShorts(x, 0, 2);
         Calls.setShorts(x, 1, 3);
@@ -539,7 +563,7 @@ public final class MarkEdgesTest {
 
     // LOST and altered ones are there, so they are freed like others.
     private static void promise9BrokenOnesAreFreed() {
-        GrownSnapshots x = withShorts(1, 2, 3);
+        GrownSnapshots x = Calls.withShorts(1, 2, 3);
         x.mark(0);
         x.lose(0, NONE);
         x.alter(1, NONE, 0, 1);
@@ -622,7 +646,7 @@ public final class MarkEdgesTest {
 
     // DROPPING changes the mark and parts: not states, tasks, numbers, other marks.
     private static void promise9WhatStays() {
-        GrownSnapshots x = withShorts(1, 2);
+        GrownSnapshots x = Calls.withShorts(1, 2);
         x.mark(0);
         Calls.setShorts(x, 0, 2);
         x.mark(0);

@@ -1,9 +1,17 @@
 import java.util.Random;
 
-/** Long mixed runs of calls, each answer against the plain model's; every seed is fixed. */
+/**
+ * Long mixed runs of calls, each answer against the plain model's; every seed is fixed. Some runs
+ * end with calls whose arguments are all taken from the edges that the document names.
+ */
 public final class ModelTest {
     private static final int RUNS = 1500;
+    private static final int EDGE_RUNS = 500;
     private static final int CALLS = 512;
+    private static final int[] EDGES = {
+        Integer.MIN_VALUE, -2, -1, 0, 0, 1, 1, 2, 3, 4, 5, 8, 9, 11, 12, 31, 32, 75, 119, 120,
+        255, 256, 300, 301, Integer.MAX_VALUE,
+    };
     private static final Due due = new Due();
     private static final int[] seen = new int[4];
 
@@ -22,7 +30,12 @@ public final class ModelTest {
 
     public static void main(String[] args) {
         for (int run = 0; run < RUNS; run++) {
-            new ModelTest(run).calls();
+            new ModelTest(run).calls(CALLS);
+        }
+        for (int run = RUNS; run < RUNS + EDGE_RUNS; run++) {
+            ModelTest test = new ModelTest(run);
+            test.calls(CALLS / 2);
+            test.edgeCalls(CALLS / 2);
         }
         // The runs are worth nothing if they never get this far.
         due.is("a mark was refused as FULL", seen[0] > 100, true);
@@ -32,8 +45,8 @@ public final class ModelTest {
         due.end();
     }
 
-    private void calls() {
-        for (int i = 0; i < CALLS; i++) {
+    private void calls(int n) {
+        for (int i = 0; i < n; i++) {
             int kind = random.nextInt(100);
             if (kind < 34) {
                 changeState();
@@ -46,6 +59,89 @@ public final class ModelTest {
             } else {
                 askAboutParts();
             }
+        }
+    }
+
+    private int edge() {
+        return EDGES[random.nextInt(EDGES.length)];
+    }
+
+    private void edgeCalls(int n) {
+        for (int i = 0; i < n; i++) {
+            int kind = random.nextInt(18);
+            if (kind < 6) {
+                edgeOfStates(kind, edge(), edge(), edge(), edge());
+            } else if (kind < 13) {
+                edgeOfMarks(kind, edge(), edge(), edge());
+            } else {
+                edgeOfParts(kind, edge(), edge(), edge(), edge());
+            }
+        }
+    }
+
+    private void edgeOfStates(int kind, int a, int b, int c, int d) {
+        switch (kind) {
+            case 0:
+                check("edge insert", x.insert(a, b, c, d), m.insert(a, b, c, d));
+                break;
+            case 1:
+                check("edge remove", x.remove(a, b, c), m.remove(a, b, c));
+                break;
+            case 2:
+                check("edge extend", x.extend(a, b, c, d), m.extend(a, b, c, d));
+                break;
+            case 3:
+                check("edge state", x.state(a, b), m.state(a, b));
+                break;
+            case 4:
+                check("edge chunk", x.chunk(a, b), m.chunk(a, b));
+                break;
+            default:
+                check("edge rescale", x.rescale(a), m.rescale(a));
+        }
+    }
+
+    private void edgeOfMarks(int kind, int a, int b, int c) {
+        switch (kind) {
+            case 6:
+                check("edge mark", x.mark(a), m.mark(a));
+                break;
+            case 7:
+                check("edge drop", x.drop(a), m.drop(a));
+                break;
+            case 8:
+                check("edge back", x.back(a), m.back(a));
+                break;
+            case 9:
+                check("edge usable", x.usable(a), m.usable(a));
+                break;
+            case 10:
+                check("edge markTold", x.markTold(a, b), m.markTold(a, b));
+                break;
+            case 11:
+                check("edge list", x.list(a, b, c), m.list(a, b, c));
+                break;
+            default:
+                due.is("run " + run + " edge same", x.same(a, b), m.same(a, b));
+        }
+    }
+
+    private void edgeOfParts(int kind, int a, int b, int c, int d) {
+        switch (kind) {
+            case 13:
+                check("edge partTold", x.partTold(a, b), m.partTold(a, b));
+                break;
+            case 14:
+                check("edge partByte", x.partByte(a, b, c), m.partByte(a, b, c));
+                break;
+            case 15:
+                check("edge alter", x.alter(a, b, c, d), m.alter(a, b, c, d));
+                break;
+            case 16:
+                check("edge lose", x.lose(a, b), m.lose(a, b));
+                break;
+            default:
+                check("edge told", x.told(a), m.told(a));
         }
     }
 

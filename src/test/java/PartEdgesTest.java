@@ -6,8 +6,8 @@
 public final class PartEdgesTest {
     private static final int NONE = Calls.NONE;
     private static final int BAD = Calls.BAD;
-    private static final int LEAST = Integer.MIN_VALUE;
-    private static final int MOST = Integer.MAX_VALUE;
+    private static final int LEAST = Calls.LEAST;
+    private static final int MOST = Calls.MOST;
     private static final int[] NO_PARTS = {-1, -2, 1, 119, 120, 121, LEAST, MOST};
     private static final int[] NO_TASKS = {-2, 2, 3, 4, LEAST, MOST};
     private static final Due due = new Due();

@@ -6,8 +6,8 @@
 public final class ReadingEdgesTest {
     private static final int NONE = Calls.NONE;
     private static final int BAD = Calls.BAD;
-    private static final int LEAST = Integer.MIN_VALUE;
-    private static final int MOST = Integer.MAX_VALUE;
+    private static final int LEAST = Calls.LEAST;
+    private static final int MOST = Calls.MOST;
     private static final Due due = new Due();
 
     public static void main(String[] args) {
@@ -17,6 +17,7 @@ public final class ReadingEdgesTest {
         promise10NoneChangesNothing();
         promise10GreatestUpToIt();
         promise10NotOneThatIsHeldAlone();
+        promise10TwelveAreHeld();
         promise10UponADroppedBase();
         promise10FewerTasks();
         promise10MoreTasks();
@@ -39,12 +40,6 @@ public final class ReadingEdgesTest {
         promise11CouldBeRead();
         promise11UpToTheLastPart();
         due.end();
-    }
-
-    private static GrownSnapshots withShorts(int... firsts) {
-        GrownSnapshots x = new GrownSnapshots();
-        Calls.setShorts(x, 0, firsts);
-        return x;
     }
 
     /** Neither the store nor the task can be read from any more. */
@@ -85,7 +80,7 @@ public final class ReadingEdgesTest {
 
     // "NONE: there is no USABLE one up to it".
     private static void promise10NoUsableOne() {
-        GrownSnapshots x = withShorts(1);
+        GrownSnapshots x = Calls.withShorts(1);
         x.mark(1);
         Calls.setShorts(x, 0, 2);
         x.mark(1);
@@ -101,7 +96,7 @@ public final class ReadingEdgesTest {
 
     // Where there is none to go back to, all stays.
     private static void promise10NoneChangesNothing() {
-        GrownSnapshots x = withShorts(1, 2);
+        GrownSnapshots x = Calls.withShorts(1, 2);
         x.mark(0);
         x.lose(0, 0);
         ruin(x, 1, 0);
@@ -135,7 +130,7 @@ public final class ReadingEdgesTest {
 
     // "A MARK is USABLE, if it is KEPT and ..".
     private static void promise10NotOneThatIsHeldAlone() {
-        GrownSnapshots x = withShorts(1);
+        GrownSnapshots x = Calls.withShorts(1);
         x.mark(0);
         x.mark(0);
         x.mark(0);
@@ -147,9 +142,24 @@ public final class ReadingEdgesTest {
         due.is("10 the one upon them", x.back(2), 2);
     }
 
+    // "at most 12 are HELD": to each of them, and not to one that was refused.
+    private static void promise10TwelveAreHeld() {
+        GrownSnapshots x = new GrownSnapshots();
+        for (int i = 0; i < 12; i++) {
+            Calls.setShorts(x, 0, i);
+            x.mark(i % 2);
+        }
+        x.mark(0);
+        for (int i = 0; i < 12; i++) {
+            due.is("10 back to " + i, x.back(i), i);
+            due.is("10 the state of " + i, x.state(0, 0), i);
+        }
+        due.is("10 not to a refused one", x.back(12), BAD);
+    }
+
     // A grown mark has its whole LISTS, also when its base's parts are freed and made anew.
     private static void promise10UponADroppedBase() {
-        GrownSnapshots x = withShorts(1, 2, 3);
+        GrownSnapshots x = Calls.withShorts(1, 2, 3);
         x.mark(0);
         Calls.setShorts(x, 0, 1, 4, 3);
         x.mark(0);
@@ -222,7 +232,7 @@ public final class ReadingEdgesTest {
 
     // "each STATE is its LIST's PARTS, READ one by one, one behind the other".
     private static void promise10OneBehindTheOther() {
-        GrownSnapshots x = withShorts(1, 2, 1);
+        GrownSnapshots x = Calls.withShorts(1, 2, 1);
         x.extend(0, 2, 9, 0);
         x.mark(0);
         Calls.setShorts(x, 0, 7, 8, 9, 10, 11, 12);
@@ -236,7 +246,7 @@ public final class ReadingEdgesTest {
 
     // "its COPY, if there is one that is not BROKEN".
     private static void promise10CopyFirst() {
-        GrownSnapshots x = withShorts(1);
+        GrownSnapshots x = Calls.withShorts(1);
         x.mark(0);
         x.alter(0, 0, 0, 1 ^ 62);
         x.back(0);
@@ -250,7 +260,7 @@ public final class ReadingEdgesTest {
 
     // "else the PART ..: then the TASK has a COPY of it, with its bytes (in place of one there)".
     private static void promise10BrokenCopy() {
-        GrownSnapshots x = withShorts(1);
+        GrownSnapshots x = Calls.withShorts(1);
         x.mark(0);
         x.alter(0, 0, 0, 128);
         x.alter(0, NONE, 0, 1 ^ 62);
@@ -262,7 +272,7 @@ public final class ReadingEdgesTest {
 
     // "if it is not BROKEN": a lost part is read from a copy, and stays lost.
     private static void promise10LostPart() {
-        GrownSnapshots x = withShorts(1);
+        GrownSnapshots x = Calls.withShorts(1);
         x.mark(0);
         x.lose(0, NONE);
         Calls.empty(x, 0);
@@ -275,7 +285,7 @@ public final class ReadingEdgesTest {
 
     // A TASK without a COPY reads THE STORE's and has one then.
     private static void promise10NoCopy() {
-        GrownSnapshots x = withShorts(1, 2);
+        GrownSnapshots x = Calls.withShorts(1, 2);
         x.mark(0);
         x.lose(0, 0);
         x.back(0);
@@ -305,7 +315,7 @@ public final class ReadingEdgesTest {
 
     // Going back touches the copies of the parts that it reads, and no others.
     private static void promise10OtherCopiesStay() {
-        GrownSnapshots x = withShorts(1);
+        GrownSnapshots x = Calls.withShorts(1);
         x.mark(1);
         Calls.setShorts(x, 0, 2);
         x.mark(1);
@@ -317,7 +327,7 @@ public final class ReadingEdgesTest {
 
     // MARKS, PARTS and the next number stay.
     private static void promise10MarksStay() {
-        GrownSnapshots x = withShorts(1);
+        GrownSnapshots x = Calls.withShorts(1);
         x.mark(0);
         Calls.setShorts(x, 0, 2);
         x.mark(0);
@@ -348,7 +358,7 @@ public final class ReadingEdgesTest {
     // "all PARTS of its LISTS could be READ": each one of them counts.
     private static void promise11AllParts() {
         for (int part = 0; part < 3; part++) {
-            GrownSnapshots x = withShorts(1, 2, 3);
+            GrownSnapshots x = Calls.withShorts(1, 2, 3);
             x.mark(0);
             due.is("11 all are sound", x.usable(0), 1);
             x.lose(part, NONE);
@@ -364,7 +374,7 @@ public final class ReadingEdgesTest {
 
     // ".. for their TASKS": another one's copy does not help.
     private static void promise11ForTheirTasks() {
-        GrownSnapshots x = withShorts(1);
+        GrownSnapshots x = Calls.withShorts(1);
         Calls.setShorts(x, 1, 2);
         x.mark(0);
         Calls.setShorts(x, 0, 2);
@@ -378,7 +388,7 @@ public final class ReadingEdgesTest {
 
     // "bytes of its own, that are BROKEN likewise (against the PART's DIGEST)".
     private static void promise11CopyAgainstThePartsDigest() {
-        GrownSnapshots x = withShorts(1);
+        GrownSnapshots x = Calls.withShorts(1);
         x.mark(0);
         x.alter(0, NONE, 0, 128);
         due.is("11 whatever the part has now", x.usable(0), 1);
@@ -421,7 +431,7 @@ public final class ReadingEdgesTest {
 
     // "could be READ": asking reads nothing, so no copy comes or is replaced.
     private static void promise11CouldBeRead() {
-        GrownSnapshots x = withShorts(1, 2);
+        GrownSnapshots x = Calls.withShorts(1, 2);
         x.mark(0);
         x.lose(0, 0);
         x.alter(1, 0, 0, 128);

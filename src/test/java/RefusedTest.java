@@ -10,8 +10,8 @@ public final class RefusedTest {
     private static final int NONE = Calls.NONE;
     private static final int BAD = Calls.BAD;
     private static final int FULL = Calls.FULL;
-    private static final int LEAST = Integer.MIN_VALUE;
-    private static final int MOST = Integer.MAX_VALUE;
+    private static final int LEAST = Calls.LEAST;
+    private static final int MOST = Calls.MOST;
     private static final int[] FAR = {LEAST, LEAST + 1, -301, -3, MOST - 1, MOST};
     private static final Due due = new Due();
 
@@ -105,17 +105,7 @@ public final class RefusedTest {
     }
 
     private static GrownSnapshots manyBytes() {
-        GrownSnapshots x = new GrownSnapshots();
-        x.rescale(4);
-        for (int i = 0; i < 75; i++) {
-            if (i == 36 || i == 72) {
-                x.mark(0);
-                for (int task = 0; task < 4; task++) {
-                    Calls.empty(x, task);
-                }
-            }
-            Calls.addLong(x, i % 36 / 9, i + i / 10 + 1);
-        }
+        GrownSnapshots x = Calls.withLongs(75);
         x.mark(0);
         x.alter(72, 0, 0, 1);
         x.lose(73, 0);

@@ -6,8 +6,8 @@ public final class StateEdgesTest {
     private static final int NONE = Calls.NONE;
     private static final int BAD = Calls.BAD;
     private static final int FULL = Calls.FULL;
-    private static final int LEAST = Integer.MIN_VALUE;
-    private static final int MOST = Integer.MAX_VALUE;
+    private static final int LEAST = Calls.LEAST;
+    private static final int MOST = Calls.MOST;
     private static final Due due = new Due();
 
     public static void main(String[] args) {
